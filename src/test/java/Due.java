@@ -1,5 +1,11 @@
+import java.util.Arrays;
+import java.util.function.IntSupplier;
+
 /** Counts and prints the answers that are not the due ones. */
 final class Due {
+    // Where shown() tells it.
+    private static final int GAPS_IN_ROW = 10;
+
     private final String test;
     private int asked = 0;
     private int wrong = 0;
@@ -27,6 +33,52 @@ final class Due {
         if (wrong != 0 || asked == 0) {
             System.exit(1);
         }
+    }
+
+    /** The call answers the refusal, which alone is counted, once; nothing else changes. */
+    void refuses(BirdThatDrinks x, int refusal, String call, IntSupplier asked) {
+        long[] before = shown(x);
+        int answer = asked.getAsInt();
+        long[] after = shown(x);
+        is(call, answer >= 1000000001 ? 1000000000 - answer : answer, refusal);
+        before[10 - refusal - 11]++;
+        isTrue(call + " changes nothing but how many refusals there were", Arrays.equals(before, after));
+    }
+
+    /** The call answers as is due and changes nothing that shows. */
+    void inMind(BirdThatDrinks x, String call, IntSupplier asked, int want) {
+        long[] before = shown(x);
+        is(call, asked.getAsInt(), want);
+        isTrue(call + " changes nothing", Arrays.equals(before, shown(x)));
+    }
+
+    /** As inMind(), but that the ROW has none then. */
+    void inMindBut(BirdThatDrinks x, String call, IntSupplier asked, int want) {
+        long[] before = shown(x);
+        is(call, asked.getAsInt(), want);
+        before[GAPS_IN_ROW] = 0;
+        isTrue(call + " changes nothing but the ROW", Arrays.equals(before, shown(x)));
+    }
+
+    /** How many refusals there were (6 numbers), then all else that an object shows without a refusal. */
+    static long[] shown(BirdThatDrinks x) {
+        long[] all = new long[96];
+        int n = 0;
+        for (int i = 11; i <= 16; i++) {
+            all[n++] = x.count(i);
+        }
+        for (int i = 0; i <= 3; i++) {
+            all[n++] = x.count(i);
+            all[n++] = x.air(i);
+        }
+        for (int i = 0; i <= 12; i++) {
+            all[n++] = x.now(i);
+        }
+        all[n++] = x.full();
+        for (int i = 0; i < 60; i++) {
+            all[n++] = x.dot(i);
+        }
+        return all;
     }
 
     /** Feeds a text of at most 64 signs, eight at a time. */

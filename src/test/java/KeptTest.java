@@ -1,0 +1,190 @@
+/** Promises 35 to 38: drafts by seeds, the image, how many. */
+public final class KeptTest {
+    private static final Due DUE = new Due("KeptTest");
+
+    public static void main(String[] args) {
+        promise35();
+        promise35Book();
+        promise36();
+        promise37();
+        promise38();
+        DUE.end();
+    }
+
+    private static BirdThatDrinks lived(int tenths) {
+        BirdThatDrinks x = new BirdThatDrinks();
+        x.set(1, 20);
+        x.wet(2000);
+        x.run(tenths);
+        return x;
+    }
+
+    /** NODS more of a real bird whose WIND is told anew in each TENTH that 10 divides. */
+    private static int nodsByDrafts(BirdThatDrinks x, int n, int z) {
+        int before = x.now(7);
+        int left = n;
+        long seed = z;
+        for (int i = 0; i < 400 && left > 0; i++) {
+            if (x.now(6) % 10 == 0) {
+                seed = (int) (seed * 1664525 + 1013904223);
+                long shown = (seed % 0x80000000L + 0x80000000L) % 0x80000000L;
+                x.set(9, (int) (shown / 256 % 10));
+            }
+            int step = Math.min(left, 10 - x.now(6) % 10);
+            x.run(step);
+            left -= step;
+        }
+        return x.now(7) - before;
+    }
+
+    private static void promise35() {
+        BirdThatDrinks x = lived(137);
+        DUE.refuses(x, -4, "drafts(0, 1)", () -> x.drafts(0, 1));
+        DUE.refuses(x, -4, "drafts(-1, 1)", () -> x.drafts(-1, 1));
+        DUE.refuses(x, -6, "drafts(3001, 1)", () -> x.drafts(3001, 1));
+        int sorts = 0;
+        int last = -1;
+        for (int z : new int[] {0, 1, -1, 7, -7, Integer.MIN_VALUE, Integer.MAX_VALUE, 123456789}) {
+            for (int n : new int[] {1, 3, 100, 700, 1500}) {
+                int want = nodsByDrafts(lived(137), n, z);
+                DUE.inMind(x, "drafts(" + n + ", " + z + ")", () -> x.drafts(n, z), want);
+                sorts += n == 700 && want != last ? 1 : 0;
+                last = n == 700 ? want : last;
+            }
+        }
+        DUE.isTrue("seeds differ", sorts > 1);
+        DUE.isTrue("drafts(3000, 5) nods", x.drafts(3000, 5) > 10);
+    }
+
+    /** A WIND of the BOOK is over the drawn one, as it is over the told one. */
+    private static void promise35Book() {
+        BirdThatDrinks x = lived(30);
+        Due.book(x, "w0:2;");
+        BirdThatDrinks y = lived(30);
+        Due.book(y, "w0:2;");
+        int before = y.now(7);
+        DUE.inMind(x, "drafts(900, 4)", () -> x.drafts(900, 4), y.run(900) - before);
+    }
+
+    private static void promise36() {
+        BirdThatDrinks x = new BirdThatDrinks();
+        DUE.is("image()", x.image(), 0);
+        x.run(17);
+        DUE.inMind(x, "image()", x::image, 17);
+    }
+
+    private static void promise37() {
+        BirdThatDrinks x = new BirdThatDrinks();
+        DUE.refuses(x, -3, "on()", x::on);
+        x.wet(2000);
+        Due.book(x, "d0:80;");
+        x.run(500);
+        x.glass(77);
+        DUE.is("image()", x.image(), 500);
+        long[] then = Due.shown(x);
+        int often = x.often(1000);
+        int full = x.full();
+        Due.book(x, "d0:10;l0:9;r0:390;");
+        int[] told = {20, 7, 33, 8, 3, 4, 3, 1, 9, 9, 9, 333, 1, 1, 444};
+        int[] was = new int[15];
+        for (int i = 0; i < 15; i++) {
+            was[i] = x.set(i, told[i]);
+        }
+        x.glass(4000);
+        x.run(900);
+        x.feed(3, 0);
+        x.gap(5);
+        x.gap(6);
+        x.set(99, 0);
+        DUE.is("on()", x.on(), 500);
+        DUE.is("THE TAPE stays", x.count(3), 3);
+        DUE.is("the ROW stays", x.count(2), 2);
+        DUE.is("REFUSALS stay, -2", x.count(12), 1);
+        DUE.is("REFUSALS stay, -3", x.count(13), 1);
+        x.judge(0);
+        x.book();
+        then[1] = 1;
+        long[] now = Due.shown(x);
+        for (int i = 0; i < then.length; i++) {
+            DUE.is("as then, " + i, now[i], then[i]);
+        }
+        DUE.is("full()", x.full(), full);
+        DUE.is("often(1000)", x.often(1000), often);
+        x.run(100);
+        DUE.is("on() again", x.on(), 500);
+        for (int i = 0; i < 15; i++) {
+            DUE.is("set " + i + " as then", x.set(i, told[i]), was[i]);
+        }
+        x.run(40);
+        DUE.is("image() anew", x.image(), 540);
+        x.run(40);
+        DUE.is("on() from the new one", x.on(), 540);
+        DUE.is("its settings", x.set(0, 40), 20);
+        isExactlyAsThen();
+    }
+
+    /** COLD and the TENTHS of a state, which are shown later only, are as then, too. */
+    private static void isExactlyAsThen() {
+        BirdThatDrinks x = new BirdThatDrinks();
+        x.run(40);
+        x.image();
+        x.wet(3000);
+        x.run(300);
+        x.on();
+        x.run(9);
+        DUE.is("COLD 49", x.now(8), 0);
+        x.run(1);
+        DUE.is("COLD 50", x.now(8), 5);
+        BirdThatDrinks y = lived(0 + 1);
+        for (int i = 0; i < 300 && y.now(8) != 1; i++) {
+            y.run(1);
+        }
+        y.run(7);
+        int swing = y.now(10);
+        y.image();
+        y.run(200);
+        y.on();
+        DUE.is("SWING", y.now(10), swing);
+        DUE.is("SINCE", y.now(9), 7);
+        y.run(2);
+        DUE.is("SWING's third TENTH", y.now(10), swing / 8 * 7);
+        BirdThatDrinks other = new BirdThatDrinks();
+        DUE.refuses(other, -3, "another object has no image, on()", other::on);
+    }
+
+    private static void promise38() {
+        BirdThatDrinks x = new BirdThatDrinks();
+        for (int what : new int[] {Integer.MIN_VALUE, -1, 4, 5, 10, 17, Integer.MAX_VALUE}) {
+            DUE.inMind(x, "count(" + what + ")", () -> x.count(what), -9);
+        }
+        x.odds(0, 0, 0, 0);
+        for (int i = 0; i < 2; i++) {
+            x.longer(2);
+        }
+        for (int i = 0; i < 3; i++) {
+            x.on();
+        }
+        for (int i = 0; i < 4; i++) {
+            x.run(0);
+        }
+        for (int i = 0; i < 6; i++) {
+            x.run(3001);
+        }
+        int[] want = {1, 2, 3, 4, 0, 6};
+        for (int i = 0; i < 6; i++) {
+            DUE.is("count(" + (11 + i) + ")", x.count(11 + i), want[i]);
+        }
+        x.now(99);
+        DUE.is("now(99) is counted, count(12)", x.count(12), 3);
+        x.feed(8, 0);
+        x.gap(0);
+        DUE.is("count(3)", x.count(3), 8);
+        DUE.is("count(2)", x.count(2), 1);
+        x.book();
+        Due.book(x, "d0:1;d0:2;");
+        DUE.is("count(1)", x.count(1), 2);
+        DUE.is("count(0)", x.count(0), 0);
+        BirdThatDrinks y = lived(500);
+        DUE.is("count(0)", y.count(0), y.now(7));
+    }
+}
