@@ -264,11 +264,34 @@ public final class DrumTest {
             }
         }
         DUE.isTrue("DRIEST is some of them", some);
+        lastTenth();
         x.judge(0);
         x.gap(9999);
         DUE.is("none fits, the least", x.driest(0, 0), -9);
         DUE.is("none fits, the greatest", x.driest(0, 1), -9);
         DUE.is("none fits, how many", x.driest(0, 2), 0);
+    }
+
+    /** One DRY's GAP ends in TENTH 3000 and is not of 3000 TENTHS. */
+    private static void lastTenth() {
+        BirdThatDrinks x = new BirdThatDrinks();
+        int[] own = {9, 2, 1, 54, 4, 14, 3, 3};
+        for (int i = 0; i < own.length; i += 2) {
+            x.set(own[i], own[i + 1]);
+        }
+        x.gap(9999);
+        int many = 0;
+        int next = 0;
+        for (int dry = 0; dry < 100; dry += 5) {
+            x.set(8, dry);
+            x.image();
+            x.wet(500);
+            many += x.run(3000) >= 2 ? 1 : 0;
+            next += x.run(1) >= 2 ? 1 : 0;
+            x.on();
+        }
+        DUE.is("driest(9999, 2)", x.driest(9999, 2), many);
+        DUE.is("one more in a TENTH more", next, many + 1);
     }
 
     /** The least, the greatest and how many DRYS fit, with WIND 3 and PEG 10, by real birds. */

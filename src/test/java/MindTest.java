@@ -21,6 +21,7 @@ public final class MindTest {
         promise22();
         promise23();
         promise24();
+        lastOfTheirKind();
         DUE.end();
     }
 
@@ -424,5 +425,27 @@ public final class MindTest {
             nods = more;
         }
         return last;
+    }
+
+    /** Where one DRY, one TENTH or one of DAMP more would answer something else. */
+    private static void lastOfTheirKind() {
+        BirdThatDrinks x = freshOf(new int[] {9, 1, 1, 56, 4, 4, 3, 2}, 500);
+        DUE.is("a DRY of 100 would do it", x.stops(821), -9);
+        BirdThatDrinks y = freshOf(new int[] {9, 1, 1, 12, 4, 0, 3, 6}, 500);
+        DUE.is("a DRY of 100 would do it sooner", y.stops(29), -9);
+        BirdThatDrinks z = freshOf(new int[] {9, 1, 1, 51, 4, 10, 3, 2, 8, 70}, 500);
+        DUE.is("both would NOD in TENTH 3000", z.together(1), -9);
+        int nods = z.law(70, 3000);
+        z.wet(500);
+        DUE.is("up to TENTH 2999", z.run(3000), nods);
+        DUE.is("a NOD in TENTH 3000", z.run(1), nods + 1);
+        BirdThatDrinks v = freshOf(new int[] {9, 2, 1, 5, 4, 18, 3, 7, 8, 34}, 500);
+        int under = v.under();
+        v.set(12, 1);
+        DUE.is("DAMP of a fresh BIRD is 0", under, v.run(3000));
+        BirdThatDrinks w = freshOf(new int[] {9, 2, 1, 9, 4, 27, 3, 5, 8, 46}, 500);
+        under = w.under();
+        w.set(12, 1);
+        DUE.is("DAMP of a fresh BIRD is 0, too", under, w.run(3000));
     }
 }
