@@ -480,7 +480,7 @@ public final class BirdThatDrinks {
         for (int i = 0; i < n; i++) {
             if (mind.time % 10 == 0) {
                 seed = seed * 1664525 + 1013904223;
-                mind.settings.put(WIND, (seed & 0x7fffffff) / 256 % 10);
+                mind.draft = (seed & 0x7fffffff) / 256 % 10;
             }
             nods += mind.nodsIn(1);
         }
@@ -827,6 +827,7 @@ public final class BirdThatDrinks {
         private static final int FIRST_GLASS = 500;
         private static final int FRESH_WET = 500;
         private static final int FIRST_SWING = 88;
+        private static final int NO_DRAFT = -1;
 
         final Cells settings = new Cells(SETTINGS);
         final Hours hours = new Hours();
@@ -844,6 +845,8 @@ public final class BirdThatDrinks {
         int since = 0;
         int swing = 0;
         int press = 0;
+        // The WIND drawn last; it is over the BOOK's and the setting. Only a bird in mind has one.
+        int draft = NO_DRAFT;
         private int cold = 0;
 
         Bird() {
@@ -871,6 +874,7 @@ public final class BirdThatDrinks {
             since = other.since;
             swing = other.swing;
             press = other.press;
+            draft = other.draft;
             cold = other.cold;
         }
 
@@ -890,6 +894,7 @@ public final class BirdThatDrinks {
             time = 0;
             nods = 0;
             press = 0;
+            draft = NO_DRAFT;
             cold = 0;
             turn(RISING);
         }
@@ -900,6 +905,9 @@ public final class BirdThatDrinks {
         }
 
         int airOf(int what) {
+            if (what == WIND && draft != NO_DRAFT) {
+                return draft;
+            }
             return hours.valueOf(what, time, settings.at(what));
         }
 

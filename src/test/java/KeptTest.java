@@ -22,16 +22,18 @@ public final class KeptTest {
     /** NODS more of a real bird whose WIND is told anew in each TENTH that 10 divides. */
     private static int nodsByDrafts(BirdThatDrinks x, int n, int z) {
         int before = x.now(7);
+        int time = x.now(6);
         int left = n;
         long seed = z;
-        for (int i = 0; i < 400 && left > 0; i++) {
-            if (x.now(6) % 10 == 0) {
+        while (left > 0) {
+            if (time % 10 == 0) {
                 seed = (int) (seed * 1664525 + 1013904223);
                 long shown = (seed % 0x80000000L + 0x80000000L) % 0x80000000L;
                 x.set(9, (int) (shown / 256 % 10));
             }
-            int step = Math.min(left, 10 - x.now(6) % 10);
+            int step = Math.min(left, 10 - time % 10);
             x.run(step);
+            time += step;
             left -= step;
         }
         return x.now(7) - before;
@@ -56,14 +58,93 @@ public final class KeptTest {
         DUE.isTrue("drafts(3000, 5) nods", x.drafts(3000, 5) > 10);
     }
 
-    /** A WIND of the BOOK is over the drawn one, as it is over the told one. */
+    /** A lived bird to whom this BOOK is told then. */
+    private static BirdThatDrinks blown(String book, int tenths) {
+        BirdThatDrinks x = lived(tenths);
+        Due.book(x, book);
+        return x;
+    }
+
+    /** From the first TENTH that 10 divides on no WIND but the drawn one blows, whatever the BOOK tells. */
     private static void promise35Book() {
-        BirdThatDrinks x = lived(30);
-        Due.book(x, "w0:2;");
-        BirdThatDrinks y = lived(30);
-        Due.book(y, "w0:2;");
-        int before = y.now(7);
-        DUE.inMind(x, "drafts(900, 4)", () -> x.drafts(900, 4), y.run(900) - before);
+        for (String wind : new String[] {"w0:0;", "w0:9;", "w0:2;w45:9;w200:0;", "w33:9;w35:0;w9999:3;"}) {
+            for (int n : new int[] {1, 60, 300, 900, 2400}) {
+                // At TIME 30, a TENTH that 10 divides, a DRAW is the WIND at once.
+                int want = nodsByDrafts(lived(30), n, 4);
+                BirdThatDrinks x = blown(wind, 30);
+                DUE.inMind(x, wind + " drafts(" + n + ", 4)", () -> x.drafts(n, 4), want);
+            }
+        }
+        BirdThatDrinks still = blown("w0:0;", 30);
+        BirdThatDrinks drawn = blown("w0:0;", 30);
+        DUE.isTrue("a DRAW and the BOOK's WIND are told apart", still.often(900) != drawn.drafts(900, 4));
+        promise35Told();
+        promise35Ahead();
+        promise35Behind();
+    }
+
+    /** The run that was told as a fault, and the other things of the BOOK, which stay. */
+    private static void promise35Told() {
+        BirdThatDrinks x = new BirdThatDrinks();
+        DUE.is("w0:0;", Due.book(x, "w0:0;"), 1);
+        x.wet(2000);
+        DUE.inMind(x, "w0:0; drafts(200, 0)", () -> x.drafts(200, 0), 1);
+        DUE.inMind(x, "w0:0; often(200)", () -> x.often(200), 0);
+        String others = "d50:90;l100:4;r200:310;d300:5;l400:0;";
+        int want = nodsByDrafts(blown(others, 30), 1500, -3);
+        BirdThatDrinks y = blown(others, 30);
+        Due.book(y, "w0:0;w77:9;");
+        DUE.inMind(y, "DRY, LAMP, ROOM of the BOOK, drafts(1500, -3)", () -> y.drafts(1500, -3), want);
+        DUE.isTrue("they count", want != nodsByDrafts(lived(30), 1500, -3));
+    }
+
+    /** Ahead of the first TENTH that 10 divides the WIND is as the setting and the BOOK give it. */
+    private static void promise35Ahead() {
+        int unlike = 0;
+        for (int from : new int[] {1, 4, 9, 11, 20, 32}) {
+            for (String wind : new String[] {"w0:0;", "w0:9;", "w3:0;w7:9;", "w9999:9;"}) {
+                BirdThatDrinks x = blown(wind, from);
+                for (int n = 1; n <= 700; n += n < 11 ? 1 : 7) {
+                    int want = nodsAheadAndByDrafts(wind, from, n, 11);
+                    DUE.is(wind + " from " + from + ", drafts(" + n + ", 11)", x.drafts(n, 11), want);
+                    unlike += nodsByDrafts(lived(from), n, 11) == want ? 0 : 1;
+                }
+            }
+        }
+        DUE.isTrue("what is ahead counts", unlike > 0);
+    }
+
+    /** By two real birds: one has the BOOK and tells its WIND; the other has none and blows as he is told. */
+    private static int nodsAheadAndByDrafts(String wind, int from, int n, int z) {
+        BirdThatDrinks teller = blown(wind, from);
+        BirdThatDrinks x = lived(from);
+        int before = x.now(7);
+        int left = n;
+        for (; left > 0 && x.now(6) % 10 != 0; left--) {
+            x.set(9, teller.air(1));
+            teller.run(1);
+            x.run(1);
+        }
+        return x.now(7) - before + nodsByDrafts(x, left, z);
+    }
+
+    /** A DRAW is gone with its call: no other call has it as WIND, nor do later drafts ahead of their first. */
+    private static void promise35Behind() {
+        BirdThatDrinks x = lived(31);
+        BirdThatDrinks y = lived(31);
+        for (int z = 0; z < 20; z++) {
+            x.drafts(100 + z, z);
+            DUE.is("often(1000)", x.often(1000), y.often(1000));
+            x.drafts(100 + z, z);
+            DUE.is("law(60, 1000)", x.law(60, 1000), y.law(60, 1000));
+            x.drafts(100 + z, z);
+            DUE.is("drinks(1000)", x.drinks(1000), y.drinks(1000));
+            x.drafts(100 + z, z);
+            DUE.is("together(1)", x.together(1), y.together(1));
+            x.drafts(100 + z, z);
+            DUE.is("run(50)", x.run(50), y.run(50));
+            DUE.is("HEAD", x.now(0), y.now(0));
+        }
     }
 
     private static void promise36() {

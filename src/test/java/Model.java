@@ -666,7 +666,9 @@ public final class Model {
             if (w.time == w.time / 10 * 10) {
                 seed = (int) (seed * 1664525L + 1013904223L);
                 long unsigned = seed & 0x7fffffffL;
-                w.settings.put("WIND", (int) (unsigned / 256 % 10));
+                int drawn = (int) (unsigned / 256 % 10);
+                w.book.removeIf(s -> s[0] == 1);
+                w.book.add(new int[] {1, w.time, drawn});
             }
             w.tenth();
         }
