@@ -9,9 +9,28 @@ final class Due {
     private final String test;
     private int asked = 0;
     private int wrong = 0;
+    // The sentence of the document that is tested, if it is told, and how much was asked ahead of it.
+    private String sentence = "";
+    private int askedAhead = -1;
+    private int sentences = 0;
 
     Due(String test) {
         this.test = test;
+    }
+
+    /** What is asked from here on tests this sentence, as the document has it. */
+    void sentence(String told) {
+        isNotEmpty();
+        sentence = told;
+        askedAhead = asked;
+        sentences++;
+    }
+
+    private void isNotEmpty() {
+        if (asked == askedAhead) {
+            wrong++;
+            System.out.println(test + ": \"" + sentence + "\" is not tested");
+        }
     }
 
     void is(String call, long got, long want) {
@@ -19,7 +38,8 @@ final class Due {
         if (got != want) {
             wrong++;
             if (wrong <= 40) {
-                System.out.println(test + ": " + call + " answered " + got + ", due is " + want);
+                System.out.println(test + ": " + (sentence.isEmpty() ? "" : "\"" + sentence + "\": ")
+                    + call + " answered " + got + ", due is " + want);
             }
         }
     }
@@ -29,7 +49,9 @@ final class Due {
     }
 
     void end() {
-        System.out.println(test + ": " + asked + " answers, " + wrong + " not as due");
+        isNotEmpty();
+        System.out.println(test + ": " + (sentences == 0 ? "" : sentences + " sentences, ")
+            + asked + " answers, " + wrong + " not as due");
         if (wrong != 0 || asked == 0) {
             System.exit(1);
         }
