@@ -36,6 +36,7 @@ public final class EdgesInMindTest {
         widest();
         lifts();
         under();
+        underFresh();
         without();
         larger();
         together();
@@ -371,6 +372,20 @@ public final class EdgesInMindTest {
             DUE.is("under()", y.under(), all);
             y.set(Poised.BELL, 1);
             DUE.is("under() with BELL", y.under(), all);
+        }
+    }
+
+    private static void underFresh() {
+        DUE.sentence("a fresh BIRD (NOW as at first (DAMP 0)");
+        // With one of DAMP more these would NOD otherwise.
+        int[][] owns = {{9, 2, 1, 5, 4, 18, 3, 7, 8, 34}, {9, 2, 1, 9, 4, 27, 3, 5, 8, 46}};
+        for (int[] own : owns) {
+            BirdThatDrinks x = lived(own);
+            DUE.isTrue("DAMP now", x.now(4) > 0);
+            x.glass(500);
+            BirdThatDrinks y = fresh(own, Poised.BELL, 1);
+            y.glass(500);
+            DUE.is("under()", x.under(), y.run(3000));
         }
     }
 

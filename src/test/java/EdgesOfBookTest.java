@@ -300,6 +300,18 @@ public final class EdgesOfBookTest {
                 DUE.is("air(" + i + ")", x.air(i), air[i]);
             }
         }
+        BirdThatDrinks y = new BirdThatDrinks();
+        Due.book(y, "l0:3;");
+        DUE.is("a FAULT in the fourth", Due.book(y, "d0:7;w5:7;l9:7;r0:99;"), -2015);
+        DUE.is("a BOOK more behind it", Due.book(y, "w0:5;d2:66;"), 2);
+        DUE.is("count(1)", y.count(1), 3);
+        int[][] airs = {{50, 5, 3, 200}, {50, 5, 3, 200}, {66, 5, 3, 200}, {66, 5, 3, 200}};
+        for (int time = 0; time < 12; time++) {
+            for (int i = 0; i <= 3; i++) {
+                DUE.is("air(" + i + ") at " + time, y.air(i), airs[Math.min(3, time)][i]);
+            }
+            y.run(1);
+        }
         BirdThatDrinks x = new BirdThatDrinks();
         Due.book(x, "d0:1;");
         DUE.is("without FAULT", Due.book(x, "d0:7;w0:7;l0:7;r0:107;"), 4);

@@ -496,6 +496,18 @@ public final class EdgesOfDrumTest {
                 }
             }
         }
+        // Without LAMP DRY 0 gives no NODS: two of three are 0.
+        int[] cold = {9, 4, 1, 20};
+        for (int place = 0; place < 3; place++) {
+            int[] dries = new int[3];
+            int[] nods = new int[3];
+            dries[place] = 60;
+            nods[place] = nodsOf(cold, 5, 60, 1000);
+            DUE.isTrue("NODS", nods[place] > 0);
+            DUE.is("DRYS " + told(dries) + ", NODS " + told(nods), with(cold).sorts(told(dries), told(nods)),
+                bitsOf(cold, dries, nods));
+            DUE.isTrue("SORT 5 is one", (with(cold).sorts(told(dries), told(nods)) & 32) != 0);
+        }
         BirdThatDrinks x = with(own);
         DUE.is("sorts(999999, 999999)", x.sorts(999999, 999999), 0);
         DUE.is("sorts(1000000, 0)", x.sorts(1000000, 0), -6);

@@ -170,6 +170,13 @@ public final class EdgesOfKeptTest {
                 DUE.is("drafts(" + n + ", 0) in TENTH " + at + " of TIPPING", p.x.drafts(n, 0), n + at >= 5 ? 1 : 0);
             }
         }
+        for (int n = 1; n <= 30; n++) {
+            BirdThatDrinks x = at(3, 0);
+            int often = x.often(60);
+            x.drafts(n, n);
+            DUE.is("often(60) behind drafts(" + n + ")", x.often(60), often);
+            DUE.is("drafts(7, 0) ahead of a DRAW behind drafts(" + n + ")", x.drafts(7, 0), x.often(7));
+        }
         for (int lamp : new int[] {1, 2993, 2994, 2995}) {
             BirdThatDrinks x = new BirdThatDrinks();
             x.set(Poised.PEG, 1);
@@ -275,9 +282,53 @@ public final class EdgesOfKeptTest {
         DUE.isTrue("much was unlike: " + unlike, unlike >= 10);
     }
 
+    private static Poised inState(int kind) {
+        switch (kind) {
+            case Poised.SWINGING:
+                Poised swinging = Poised.swinging();
+                swinging.tenths(7, 1);
+                return swinging;
+            case Poised.TIPPING:
+                Poised tipping = Poised.tipping(400);
+                tipping.tenths(3, 1);
+                return tipping;
+            case Poised.EMPTYING:
+                Poised emptying = Poised.emptying(400);
+                emptying.tenths(2, 1);
+                return emptying;
+            case Poised.HANGING: return Poised.hanging();
+            case Poised.STOPPED: return Poised.stopped(60, 700);
+            case Poised.DRIED: return Poised.dried(60, 700);
+            default: return new Poised(60).raised(1234);
+        }
+    }
+
+    private static void goOnLikeEachOther(Poised p, Poised q, String when) {
+        for (int press : new int[] {2, 0, 5, -7, 1, 0, 33, -20}) {
+            for (int what = 0; what <= 12; what++) {
+                DUE.is(when + ", now(" + what + ")", p.x.now(what), q.x.now(what));
+            }
+            p.tenth(press);
+            q.tenth(press);
+        }
+        DUE.is(when + ", colder", p.tenths(60, 0), q.tenths(60, 0));
+        DUE.is(when + ", warmer", p.tenths(20, 54), q.tenths(20, 54));
+        DUE.is(when + ", UP", p.up(), q.up());
+    }
+
     /** From each STATE on all goes as it went. */
     private static void imageStates() {
         DUE.sentence("ON from it all is as then");
+        for (int kind = Poised.RISING; kind <= Poised.DRIED; kind++) {
+            for (int other = Poised.RISING; other <= Poised.DRIED; other++) {
+                Poised p = inState(kind);
+                DUE.is("KIND", p.kind(), kind);
+                p.x.image();
+                comeTo(p, other);
+                p.x.on();
+                goOnLikeEachOther(p, inState(kind), "in " + kind + " out of " + other);
+            }
+        }
         for (int time = 1; time <= 200; time += 3) {
             BirdThatDrinks x = windy(4);
             BirdThatDrinks y = windy(4);
@@ -295,6 +346,22 @@ public final class EdgesOfKeptTest {
             x.run(40);
             y.run(40);
             DUE.isTrue("all as without it, TIME " + time, Arrays.equals(Due.shown(x), Due.shown(y)));
+        }
+    }
+
+    /** Some other STATE, by whatever it takes. */
+    private static void comeTo(Poised p, int kind) {
+        p.with(Poised.STUFF, 10).with(Poised.LIFT, 9).with(Poised.PEG, kind == Poised.HANGING ? 99 : 1);
+        if (kind == Poised.STOPPED || kind == Poised.DRIED) {
+            p.with(Poised.PEG, 99);
+            p.x.wet(0);
+            p.x.glass(kind == Poised.DRIED ? 0 : 9999);
+            p.tenths(60, 1);
+            p.tenths(30, -45);
+            p.tenths(50, 0);
+        }
+        for (int i = 0; i < 90 && p.kind() != kind; i++) {
+            p.tenth(54);
         }
     }
 
