@@ -11,6 +11,10 @@ public final class AnyArgumentsTest {
         1, 2, 3, 8, 9, 10, 14, 15, 16, 60, 61, 64, 65, 99, 100, 300, 301, 1000, 1001, 3000, 3001, 9999, 10000,
         999999, 1000000, Integer.MAX_VALUE - 1, Integer.MAX_VALUE};
 
+    // Of the 512 calls of an object what inState() leaves, and what ask() takes.
+    private static final int CALLS = 420;
+    private static final int CALLS_PER_ASK = 13;
+
     public static void main(String[] args) throws Exception {
         Due due = new Due("AnyArgumentsTest");
         List<Method> face = new ArrayList<>();
@@ -83,17 +87,17 @@ public final class AnyArgumentsTest {
     private static void askAll(Due due, Method m, int state) throws Exception {
         int many = m.getParameterCount();
         BirdThatDrinks x = inState(state);
-        int left = 400;
+        int left = CALLS;
         for (int i = 0; i < 48; i++) {
             Object[] args = new Object[many];
             for (int k = 0; k < many; k++) {
                 int v = NUMBERS[(i * (3 * k + 1) + k * 7) % NUMBERS.length];
                 args[k] = m.getParameterTypes()[k] == long.class ? (Object) (v * 4294967311L) : (Object) v;
             }
-            left -= 8;
+            left -= CALLS_PER_ASK;
             if (left < 0) {
                 x = inState(state);
-                left = 400;
+                left = CALLS;
             }
             ask(due, m, x, args);
         }

@@ -74,17 +74,7 @@ public final class DrumTest {
         DUE.inMind(x, "longer(0)", () -> x.longer(0), longerOf(gaps));
         DUE.is("longer(0)", x.longer(0), longer);
         DUE.is("longer(1)", x.longer(1), shorter);
-        int steps = 0;
-        for (int more = 0; more < 300; more++) {
-            int want = -9;
-            for (int i = gaps.size() - 1; i >= 1; i--) {
-                want = Math.abs(gaps.get(i) - gaps.get(i - 1)) > more ? i : want;
-            }
-            steps += x.even(more) == x.even(more + 1) ? 0 : 1;
-            DUE.is("even(" + more + ")", x.even(more), want);
-        }
-        DUE.isTrue("EVEN has several answers", steps > 1);
-        DUE.is("even(greatest)", x.even(Integer.MAX_VALUE), -9);
+        evenOf(uneven(), gaps);
         slowOf(uneven(), gaps);
         DUE.refuses(x, -4, "even(-1)", () -> x.even(-1));
         DUE.refuses(x, -4, "even(least)", () -> x.even(Integer.MIN_VALUE));
@@ -92,6 +82,23 @@ public final class DrumTest {
         DUE.refuses(x, -2, "longer(-1)", () -> x.longer(-1));
         DUE.refuses(x, -4, "slow(-1)", () -> x.slow(-1));
         DUE.refuses(x, -6, "slow(1000)", () -> x.slow(1000));
+    }
+
+    private static void evenOf(BirdThatDrinks x, List<Integer> gaps) {
+        int steps = 0;
+        int before = x.even(0);
+        for (int more = 0; more < 300; more++) {
+            int want = -9;
+            for (int i = gaps.size() - 1; i >= 1; i--) {
+                want = Math.abs(gaps.get(i) - gaps.get(i - 1)) > more ? i : want;
+            }
+            int answer = x.even(more);
+            steps += answer == before ? 0 : 1;
+            before = answer;
+            DUE.is("even(" + more + ")", answer, want);
+        }
+        DUE.isTrue("EVEN has several answers", steps > 1);
+        DUE.is("even(greatest)", x.even(Integer.MAX_VALUE), -9);
     }
 
     private static int longerOf(List<Integer> gaps) {
@@ -119,10 +126,11 @@ public final class DrumTest {
 
     private static void promise29() {
         BirdThatDrinks x = uneven();
+        List<Integer> dots = dots(x);
         int all = 0;
         for (int i = 0; i < 14; i++) {
             int want = 0;
-            for (int dot : dots(x)) {
+            for (int dot : dots) {
                 want += dot / 100 == i ? 1 : 0;
             }
             all += want;
@@ -164,8 +172,8 @@ public final class DrumTest {
         DUE.is("slow(0)", x.slow(0), -9);
         DUE.is("hour(0)", x.hour(0), 0);
         x.wet(500);
-        for (int i = 0; i < 400 && x.count(0) < 2; i++) {
-            x.run(1);
+        for (int i = 0; i < 100 && x.count(0) < 2; i++) {
+            x.run(4);
             DUE.is("without GAP 1, slow(0)", x.slow(0), -9);
             DUE.is("without GAP 1, even(0)", x.even(0), -9);
         }
@@ -251,16 +259,18 @@ public final class DrumTest {
         DUE.isTrue("many GAPS of DRY 55", gaps.size() >= 10);
         boolean some = false;
         for (int k : new int[] {1, 4, 10}) {
-            x.judge(0);
-            tell(x, gaps.subList(0, k));
+            BirdThatDrinks y = new BirdThatDrinks();
+            y.set(9, 3);
+            y.set(1, 10);
+            tell(y, gaps.subList(0, k));
             for (int slip : new int[] {0, 1, 2, 3, 10, 60, 9999}) {
                 int[] want = dryFits(gaps.subList(0, k), slip);
                 for (int what = 0; what < 3; what++) {
                     int asked = what;
-                    DUE.inMind(x, "driest(" + slip + ", " + what + "), " + k, () -> x.driest(slip, asked), want[what]);
+                    DUE.inMind(y, "driest(" + slip + ", " + what + "), " + k, () -> y.driest(slip, asked), want[what]);
                 }
                 some = some || want[2] > 1 && want[2] < 15;
-                DUE.is("the ROW stays", x.count(2), k);
+                DUE.is("the ROW stays", y.count(2), k);
             }
         }
         DUE.isTrue("DRIEST is some of them", some);
@@ -348,14 +358,17 @@ public final class DrumTest {
         DUE.is("sorts(999999, 999999)", x.sorts(999999, 999999), 0);
         boolean several = false;
         for (int[] dries : new int[][] {{5, 50, 99}, {0, 0, 3}, {99, 2, 1}, {7, 8, 9}}) {
+            BirdThatDrinks y = new BirdThatDrinks();
+            y.set(9, 4);
+            y.set(1, 80);
             for (int sort = 1; sort <= 9; sort++) {
                 int[] nods = {nodsOf(sort, dries[0]), nodsOf(sort, dries[1]), nodsOf(sort, dries[2])};
                 int told = 10000 * dries[0] + 100 * dries[1] + dries[2];
                 int toldNods = 10000 * nods[0] + 100 * nods[1] + nods[2];
                 int bits = bitsOf(dries, nods);
                 several = several || Integer.bitCount(bits) > 1 && bits != 1022;
-                DUE.inMind(x, "sorts(" + told + ", " + toldNods + ")", () -> x.sorts(told, toldNods), bits);
-                DUE.is("NODS by one off", x.sorts(told, toldNods + 10000), bitsOf(dries,
+                DUE.inMind(y, "sorts(" + told + ", " + toldNods + ")", () -> y.sorts(told, toldNods), bits);
+                DUE.is("NODS by one off", y.sorts(told, toldNods + 10000), bitsOf(dries,
                     new int[] {nods[0] + 1, nods[1], nods[2]}));
             }
         }
@@ -379,12 +392,15 @@ public final class DrumTest {
             int[] nods = {nodsOf(told, 7), nodsOf(told, 8), nodsOf(told, 9)};
             int toldNods = 10000 * nods[0] + 100 * nods[1] + nods[2];
             int bits = bitsOf(new int[] {7, 8, 9}, nods);
+            BirdThatDrinks y = new BirdThatDrinks();
+            y.set(9, 4);
+            y.set(1, 80);
             for (int s = 1; s <= 9; s++) {
                 int sort = s;
                 boolean so = (bits & 1 << sort) != 0;
                 out = out || !so && bits != 0;
-                DUE.inMind(x, "odds above", () -> x.odds(sort, 70809, toldNods, 0), so ? 1 : 0);
-                DUE.inMind(x, "odds below", () -> x.odds(sort, 70809, toldNods, 1), so ? Integer.bitCount(bits) : 1);
+                DUE.inMind(y, "odds above", () -> y.odds(sort, 70809, toldNods, 0), so ? 1 : 0);
+                DUE.inMind(y, "odds below", () -> y.odds(sort, 70809, toldNods, 1), so ? Integer.bitCount(bits) : 1);
             }
         }
         DUE.isTrue("some SORTS are out", out);

@@ -3,8 +3,8 @@ import java.util.function.IntSupplier;
 
 /** Counts and prints the answers that are not the due ones. */
 final class Due {
-    // Where shown() tells it.
-    private static final int GAPS_IN_ROW = 10;
+    // Where glance() tells it.
+    private static final int GAPS_IN_ROW = 0;
 
     private final String test;
     private int asked = 0;
@@ -57,29 +57,31 @@ final class Due {
         }
     }
 
-    /** The call answers the refusal, which alone is counted, once; nothing else changes. */
+    /** The call answers the refusal, which is counted, once; that nothing else changes is RefusedTest's to ask. */
     void refuses(BirdThatDrinks x, int refusal, String call, IntSupplier asked) {
-        long[] before = shown(x);
+        int before = x.count(10 - refusal);
         int answer = asked.getAsInt();
-        long[] after = shown(x);
         is(call, answer >= 1000000001 ? 1000000000 - answer : answer, refusal);
-        before[10 - refusal - 11]++;
-        isTrue(call + " changes nothing but how many refusals there were", Arrays.equals(before, after));
+        is(call + ", count(" + (10 - refusal) + ")", x.count(10 - refusal), before + 1);
     }
 
-    /** The call answers as is due and changes nothing that shows. */
+    /** The call answers as is due and changes nothing at a glance; RefusedTest looks at more. */
     void inMind(BirdThatDrinks x, String call, IntSupplier asked, int want) {
-        long[] before = shown(x);
+        int[] before = glance(x);
         is(call, asked.getAsInt(), want);
-        isTrue(call + " changes nothing", Arrays.equals(before, shown(x)));
+        isTrue(call + " changes nothing", Arrays.equals(before, glance(x)));
     }
 
     /** As inMind(), but that the ROW has none then. */
     void inMindBut(BirdThatDrinks x, String call, IntSupplier asked, int want) {
-        long[] before = shown(x);
+        int[] before = glance(x);
         is(call, asked.getAsInt(), want);
         before[GAPS_IN_ROW] = 0;
-        isTrue(call + " changes nothing but the ROW", Arrays.equals(before, shown(x)));
+        isTrue(call + " changes nothing but the ROW", Arrays.equals(before, glance(x)));
+    }
+
+    private static int[] glance(BirdThatDrinks x) {
+        return new int[] {x.count(2), x.now(2), x.now(6), x.now(7), x.now(11), x.count(0)};
     }
 
     /** How many refusals there were (6 numbers), then all else that an object shows without a refusal. */

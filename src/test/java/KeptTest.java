@@ -47,9 +47,10 @@ public final class KeptTest {
         int sorts = 0;
         int last = -1;
         for (int z : new int[] {0, 1, -1, 7, -7, Integer.MIN_VALUE, Integer.MAX_VALUE, 123456789}) {
+            BirdThatDrinks y = lived(137);
             for (int n : new int[] {1, 3, 100, 700, 1500}) {
                 int want = nodsByDrafts(lived(137), n, z);
-                DUE.inMind(x, "drafts(" + n + ", " + z + ")", () -> x.drafts(n, z), want);
+                DUE.inMind(y, "drafts(" + n + ", " + z + ")", () -> y.drafts(n, z), want);
                 sorts += n == 700 && want != last ? 1 : 0;
                 last = n == 700 ? want : last;
             }

@@ -1,3 +1,5 @@
+import java.util.HashSet;
+import java.util.Set;
 import java.util.function.IntUnaryOperator;
 
 /** Promises 11 to 24: what is in mind, held against real birds that go through the same. */
@@ -296,11 +298,14 @@ public final class MindTest {
     }
 
     private static int firstInBoth(BirdThatDrinks one, BirdThatDrinks other) {
-        for (int i = 0; i < one.count(0); i++) {
-            for (int k = 0; k < other.count(0); k++) {
-                if (one.dot(i) == other.dot(k)) {
-                    return one.dot(i);
-                }
+        Set<Integer> others = new HashSet<>();
+        for (int i = 0; i < 60; i++) {
+            others.add(other.dot(i));
+        }
+        for (int i = 0; i < 60; i++) {
+            int dot = one.dot(i);
+            if (dot >= 0 && others.contains(dot)) {
+                return dot;
             }
         }
         return -9;
@@ -320,12 +325,13 @@ public final class MindTest {
     }
 
     private static void promise22() {
-        BirdThatDrinks x = lived();
         for (int by = 0; by <= 5; by++) {
+            BirdThatDrinks x = lived();
             for (int n : new int[] {1, 60, 70, 80, 90, 300}) {
                 isGoes(x, n, by, 40, 60);
             }
         }
+        BirdThatDrinks x = lived();
         DUE.is("goes(1, 5, 0)", x.goes(1, 5, 0), 0);
         DUE.is("goes(1, 5, 1)", x.goes(1, 5, 1), 1);
         DUE.is("goes(300, 0, 0)", x.goes(300, 0, 0), 1);

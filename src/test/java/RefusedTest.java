@@ -14,7 +14,7 @@ public final class RefusedTest {
     private static final Due DUE = new Due("RefusedTest");
     private static final int LIVES = 3;
     // Calls made of one object at most, so that it can still be asked to its end.
-    private static final int BATCH = 150;
+    private static final int BATCH = 90;
     private static final long[][] WHOLE = new long[LIVES][];
     // By each argument: what refuses it ("nobody", "what", a number, or nothing), its least and its greatest.
     private static final String[] CALLS = {
