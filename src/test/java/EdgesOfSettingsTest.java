@@ -19,6 +19,7 @@ public final class EdgesOfSettingsTest {
         run();
         now();
         full();
+        calls();
         DUE.end();
     }
 
@@ -162,5 +163,32 @@ public final class EdgesOfSettingsTest {
                 }
             }
         }
+    }
+
+    private static void calls() {
+        DUE.sentence("An object is used for at most 512 calls after it has been made");
+        BirdThatDrinks x = new BirdThatDrinks();
+        x.set(Poised.LAMP, 9);
+        for (int i = 2; i < 511; i++) {
+            x.run(3000);
+        }
+        int nods = x.now(7);
+        DUE.is("the 512th: TIME", x.now(6), 509 * 3000);
+        DUE.isTrue("NODS", nods > 10000);
+        BirdThatDrinks y = new BirdThatDrinks();
+        for (int i = 1; i < 512; i++) {
+            y.air(4);
+        }
+        DUE.is("the 512th: REFUSALS", y.count(12), 511);
+        BirdThatDrinks z = new BirdThatDrinks();
+        z.glass(9999);
+        z.set(Poised.DRY, 99);
+        z.set(Poised.WIND, 9);
+        z.set(Poised.FELT, 99);
+        for (int i = 5; i < 512; i += 2) {
+            z.wet(9900);
+            z.run(100);
+        }
+        DUE.isTrue("the 512th: GONE is as much as can be", z.now(5) > 250 * 9900);
     }
 }

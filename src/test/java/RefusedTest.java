@@ -16,17 +16,42 @@ public final class RefusedTest {
     // Calls made of one object at most, so that it can still be asked to its end.
     private static final int BATCH = 90;
     private static final long[][] WHOLE = new long[LIVES][];
-    // By each argument: what refuses it ("nobody", "what", a number, or nothing), its least and its greatest.
+    // By each argument: what refuses it ("nobody", "what", a number, or nothing), its least and its greatest;
+    // then what the document says of it.
     private static final String[] CALLS = {
-        "feed number 1 8 long 0 0", "glass number 0 9999", "wet number 0 9900", "run number 1 3000", "now what 0 12",
-        "air what 0 3", "full", "often number 1 3000", "law number 0 99 number 1 3000", "stops number 1 3000",
-        "pegs number 1 1000 what 0 1", "widest number 1 1000", "lifts number 1 3000", "under",
-        "without number 1 3000", "larger number 1 4 number 1 3000", "together number 1 4", "drinks number 1 3000",
-        "goes number 1 300 number 0 5 what 0 1", "bestRoom number 1 3000", "latest number 1 3000",
-        "dot number 0 2147483647", "even number 0 2147483647", "longer what 0 1", "slow number 0 999",
-        "hour number 0 2147483647", "gap number 0 9999", "judge number 0 9999", "driest number 0 9999 what 0 2",
-        "sorts number 0 999999 number 0 999999", "odds nobody 1 9 number 0 999999 number 0 999999 what 0 1",
-        "drafts number 1 3000 any 0 0", "count any 0 0"};
+        "feed number 1 8 long 0 0 = n (1 .. 8) bytes come .. -4; -6 (n; above 64).",
+        "glass number 0 9999 = GLASS: what it was. -4; -6 9999.",
+        "wet number 0 9900 = WET becomes v (0 .. 9900 ..). -4; -6 9900.",
+        "run number 1 3000 = RUN: all NODS. -4; -6 3000.",
+        "now what 0 12 = 0 HEAD .. 12 PRESS. Refused as told: -2.",
+        "air what 0 3 = 0 DRY, 1 WIND, 2 LAMP, 3 ROOM. -2.",
+        "full = FULL.",
+        "often number 1 3000 = OFTEN. -4; -6 3000.",
+        "law number 0 99 number 1 3000 = LAW. -4; -6 (99; 3000).",
+        "stops number 1 3000 = STOPS; -9. -4; -6 3000.",
+        "pegs number 1 1000 what 0 1 = PEGS: the least (what 0), the greatest (1); -9. -2; -4; -6 1000.",
+        "widest number 1 1000 = WIDEST. -4; -6 1000.",
+        "lifts number 1 3000 = LIFTS. -4; -6 3000.",
+        "under = UNDER.",
+        "without number 1 3000 = WITHOUT; -9. -4; -6 3000.",
+        "larger number 1 4 number 1 3000 = LARGER. -4; -6 (4; 3000).",
+        "together number 1 4 = TOGETHER; -9. -4; -6 4.",
+        "drinks number 1 3000 = DRINKS. -4; -6 3000.",
+        "goes number 1 300 number 0 5 what 0 1 = GOES, part 0 above, 1 below the line. -2; -4; -6 (300; 5).",
+        "bestRoom number 1 3000 = BEST ROOM. -4; -6 3000.",
+        "latest number 1 3000 = LATEST; -9. -4; -6 3000.",
+        "dot number 0 2147483647 = DOT i; -9 not so many. -4.",
+        "even number 0 2147483647 = EVEN; -9. -4.",
+        "longer what 0 1 = LONGER (what 0), shorter (1). -2.",
+        "slow number 0 999 = SLOW; -9. -4; -6 999.",
+        "hour number 0 2147483647 = HOUR i. -4.",
+        "gap number 0 9999 = A told GAP more of the ROW: how many. -4; -6 (9999; 10, too).",
+        "judge number 0 9999 = JUDGED; -9 .. -4; -6 9999 (it stays).",
+        "driest number 0 9999 what 0 2 = DRIEST by the ROW .. -2; -4; -6 9999; -3 the ROW has none.",
+        "sorts number 0 999999 number 0 999999 = SORTS (bits) .. -4; -6 999999.",
+        "odds nobody 1 9 number 0 999999 number 0 999999 what 0 1 = ODDS .. -1 SORT (1 .. 9); -2; -4; -6.",
+        "drafts number 1 3000 any 0 0 = DRAFTS. -4; -6 3000.",
+        "count any 0 0 = .. -9 for another what."};
     // Where these are not refused they change something: other tests ask that.
     private static final List<String> CHANGING = List.of("feed", "glass", "wet", "run", "gap", "judge");
     private static final int[] LEAST = {10, 1, 10, 1, 0, 0, 1, 0, 0, 0, 0, 100, 0, 0, 0};
@@ -76,8 +101,9 @@ public final class RefusedTest {
         }
         for (int life = 0; life < LIVES; life++) {
             for (String call : CALLS) {
-                DUE.sentence(call);
-                askAll(call.split(" "), life);
+                String[] parts = call.split(" = ");
+                DUE.sentence(parts[0].split(" ")[0] + ": " + parts[1]);
+                askAll(parts[0].split(" "), life);
             }
             askSet(life);
         }
@@ -216,7 +242,7 @@ public final class RefusedTest {
     }
 
     private static void askSet(int life) throws Exception {
-        DUE.sentence("set -2; -4; -6.");
+        DUE.sentence("set: A setting: what it was. -2; -4; -6.");
         Asked asked = new Asked(life);
         for (int v : new int[] {Integer.MIN_VALUE, -1, 0, 1, 50, 1000, Integer.MAX_VALUE}) {
             for (int what : new int[] {Integer.MIN_VALUE, -2, -1, 15, 16, Integer.MAX_VALUE}) {
@@ -233,13 +259,13 @@ public final class RefusedTest {
     }
 
     private static void refusedByState() throws Exception {
-        DUE.sentence("on -3 there is none.");
+        DUE.sentence("on: ON from it: TIME. -3 there is none.");
         Map<Integer, Integer> answers = new LinkedHashMap<>();
         Asked asked = new Asked(0);
         asked.call("on", new Object[0], -3);
         asked.call("on", new Object[0], -3);
         asked.end();
-        DUE.sentence("feed -4; -6 (n; above 64)");
+        DUE.sentence("feed: -4; -6 (n; above 64).");
         for (int has = 55; has <= 64; has++) {
             for (int n = 0; n <= 9; n++) {
                 BirdThatDrinks x = new BirdThatDrinks();
