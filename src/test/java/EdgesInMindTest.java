@@ -347,7 +347,8 @@ public final class EdgesInMindTest {
                 DUE.is("lifts(" + n + ") with " + Arrays.toString(own), lived(own).lifts(n), best);
             }
         }
-        DUE.isTrue("0, 9 and some between: " + answers, answers.contains(0) && answers.contains(9) && answers.size() > 3);
+        DUE.isTrue("0, 9 and some between: " + answers,
+            answers.contains(0) && answers.contains(9) && answers.size() > 3);
         DUE.is("0 of all alike", lived(SOON).lifts(5), 0);
         DUE.is("2 of 0 .. 2 that NOD once: FULL 30 and not 40 of UP 36", lived(SOON).lifts(6), 2);
     }
@@ -355,7 +356,8 @@ public final class EdgesInMindTest {
     private static void under() {
         DUE.sentence("UNDER: NODS of a fresh BIRD under a BELL in 3000 TENTHS.");
         // The first two NOD in TENTH 2999, the others in TENTH 3000.
-        int[][] owns = {{1, 4, 2, 91, 3, 2, 4, 7, 5, 2, 6, 1, 8, 86, 9, 9}, {1, 3, 2, 98, 3, 6, 4, 18, 5, 7, 6, 1, 8, 73, 9, 4},
+        int[][] owns = {
+            {1, 4, 2, 91, 3, 2, 4, 7, 5, 2, 6, 1, 8, 86, 9, 9}, {1, 3, 2, 98, 3, 6, 4, 18, 5, 7, 6, 1, 8, 73, 9, 4},
             {1, 43, 2, 32, 3, 9, 4, 0, 5, 4, 6, 1, 8, 71, 9, 5}, {1, 6, 2, 49, 3, 7, 4, 12, 5, 0, 6, 1, 8, 15, 9, 8}};
         for (int i = 0; i < owns.length; i++) {
             BirdThatDrinks x = new BirdThatDrinks();
@@ -390,7 +392,8 @@ public final class EdgesInMindTest {
     }
 
     private static void without() {
-        DUE.sentence("WITHOUT: the least LAMP with which a fresh BIRD with WET 0 and GLASS 0 NODS in n TENTHS (BLACK as it is); -9.");
+        DUE.sentence("WITHOUT: the least LAMP with which a fresh BIRD with WET 0 and GLASS 0 NODS in n TENTHS "
+            + "(BLACK as it is); -9.");
         int[][] owns = {SOON, PLAIN, WARM, {1, 74, 2, 80, 3, 4, 4, 8, 5, 4, 6, 2, 8, 27, 9, 3},
             {1, 67, 2, 88, 3, 1, 4, 28, 5, 2, 6, 1, 8, 33, 9, 1}, {1, 98, 2, 90, 3, 3, 4, 33, 5, 5, 6, 3, 8, 98, 9, 9}};
         TreeSet<Integer> answers = new TreeSet<>();
@@ -438,7 +441,8 @@ public final class EdgesInMindTest {
     }
 
     private static void together() {
-        DUE.sentence("TOGETHER: the first TENTH (of 3000) in which a fresh BIRD of SIZE 1 and one of SIZE k both NOD; -9.");
+        DUE.sentence("TOGETHER: the first TENTH (of 3000) in which a fresh BIRD of SIZE 1 and one of SIZE k "
+            + "both NOD; -9.");
         for (int i = 0; i < LATE.length; i++) {
             BirdThatDrinks x = lived(LATE[i]);
             x.set(Poised.SIZE, 1 + i);
@@ -581,7 +585,8 @@ public final class EdgesInMindTest {
     }
 
     private static void bestRoom() {
-        DUE.sentence("BEST ROOM: of ROOMS 100, 150, .. 400 that in which a fresh BIRD has most NODS in n TENTHS, of several the least.");
+        DUE.sentence("BEST ROOM: of ROOMS 100, 150, .. 400 that in which a fresh BIRD has most NODS in n "
+            + "TENTHS, of several the least.");
         for (int[] own : new int[][] {SOON, PLAIN, WARM, LATE[0]}) {
             for (int room : new int[] {100, 101, 200, 400}) {
                 BirdThatDrinks x = lived(own);
@@ -597,7 +602,8 @@ public final class EdgesInMindTest {
     }
 
     private static void latest() {
-        DUE.sentence("LATEST: of SIZES 1 .. 4 that of which a fresh BIRD in n TENTHS has its latest NOD latest, of several the least; -9 none NODS.");
+        DUE.sentence("LATEST: of SIZES 1 .. 4 that of which a fresh BIRD in n TENTHS has its latest NOD latest, "
+            + "of several the least; -9 none NODS.");
         TreeSet<Integer> answers = new TreeSet<>();
         int[] mild = {1, 90, 2, 60, 10, 2, 3, 4, 8, 20};
         for (int[] own : new int[][] {PLAIN, mild, LATE[0], LATE[1], LATE[2], LATE[3], BY_300[0], BY_1000[0]}) {

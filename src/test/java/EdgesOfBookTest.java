@@ -281,7 +281,8 @@ public final class EdgesOfBookTest {
         DUE.is("one more", Due.book(x, "l0:1;"), -2000);
         BirdThatDrinks y = new BirdThatDrinks();
         Due.book(y, LONGEST);
-        DUE.is("a VALUE ahead of where the room ends", Due.book(y, "l0:1;l0:2;l0:3;l0:4;l0:5;l0:6;l0:7;l0:88;l0:9;"), -2035);
+        DUE.is("a VALUE ahead of where the room ends", Due.book(y, "l0:1;l0:2;l0:3;l0:4;l0:5;l0:6;l0:7;l0:88;l0:9;"),
+            -2035);
         DUE.is("a VALUE where the room ends", Due.book(y, "l0:1;l0:2;l0:3;l0:4;l0:5;l0:6;l0:7;l0:8;l0:99;"), -2040);
         DUE.is("a VALUE behind it", Due.book(y, "l0:1;l0:2;l0:3;l0:4;l0:5;l0:6;l0:7;l0:8;l0:9;l0:99;"), -2040);
         DUE.is("count(1)", y.count(1), 12);
@@ -289,7 +290,8 @@ public final class EdgesOfBookTest {
 
     private static void allOrNothing() {
         DUE.sentence("Without FAULT all of it comes, with one nothing.");
-        String[] faults = {"d0:7;w0:7;l0:7;r0:107;x", "d0:7;w0:7;l0:7;r0:107", "d0:7;w0:7;l0:7;r0:99;", "d0:7;w0:7;l0:7;r0:107;d0:100;"};
+        String[] faults = {"d0:7;w0:7;l0:7;r0:107;x", "d0:7;w0:7;l0:7;r0:107", "d0:7;w0:7;l0:7;r0:99;",
+            "d0:7;w0:7;l0:7;r0:107;d0:100;"};
         for (String text : faults) {
             BirdThatDrinks x = new BirdThatDrinks();
             Due.book(x, "d0:1;");

@@ -72,8 +72,10 @@ public final class EdgesOfDrumTest {
             BirdThatDrinks longer = drum(20, 20, 20 + unlike);
             BirdThatDrinks shorter = drum(20, 20, 20 - unlike);
             for (int more = 0; more <= 4; more++) {
-                DUE.is("even(" + more + ") of 20, 20 and " + unlike + " more", longer.even(more), unlike > more ? 2 : -9);
-                DUE.is("even(" + more + ") of 20, 20 and " + unlike + " less", shorter.even(more), unlike > more ? 2 : -9);
+                DUE.is("even(" + more + ") of 20, 20 and " + unlike + " more", longer.even(more),
+                    unlike > more ? 2 : -9);
+                DUE.is("even(" + more + ") of 20, 20 and " + unlike + " less", shorter.even(more),
+                    unlike > more ? 2 : -9);
             }
         }
         DUE.is("no DOT", new BirdThatDrinks().even(0), -9);
@@ -441,6 +443,10 @@ public final class EdgesOfDrumTest {
         return x.run(n);
     }
 
+    private static int[] nodsOfAll(int[] own, int sort, int[] dries) {
+        return Arrays.stream(dries).map(dry -> nodsOf(own, sort, dry, 1000)).toArray();
+    }
+
     private static int bitsOf(int[] own, int[] dries, int[] nods) {
         int bits = 0;
         for (int sort = 1; sort <= 9; sort++) {
@@ -465,7 +471,7 @@ public final class EdgesOfDrumTest {
         int seen = 0;
         for (int sort = 1; sort <= 9; sort++) {
             int[] dries = {20, 50, 80};
-            int[] nods = {nodsOf(own, sort, 20, 1000), nodsOf(own, sort, 50, 1000), nodsOf(own, sort, 80, 1000)};
+            int[] nods = nodsOfAll(own, sort, dries);
             int bits = bitsOf(own, dries, nods);
             DUE.isTrue("SORT " + sort + " is one", (bits & 1 << sort) != 0);
             BirdThatDrinks x = with(own);
@@ -481,7 +487,7 @@ public final class EdgesOfDrumTest {
         int[] own = {9, 4, 1, 20, 10, 1};
         int[][] all = {{0, 0, 0}, {99, 99, 99}, {0, 0, 99}, {0, 99, 0}, {99, 0, 0}, {1, 2, 3}, {99, 50, 0}};
         for (int[] dries : all) {
-            int[] nods = {nodsOf(own, 5, dries[0], 1000), nodsOf(own, 5, dries[1], 1000), nodsOf(own, 5, dries[2], 1000)};
+            int[] nods = nodsOfAll(own, 5, dries);
             BirdThatDrinks x = with(own);
             DUE.is("sorts of " + told(dries), x.sorts(told(dries), told(nods)), bitsOf(own, dries, nods));
             DUE.isTrue("SORT 5 is one", (x.sorts(told(dries), told(nods)) & 32) != 0);
@@ -532,7 +538,8 @@ public final class EdgesOfDrumTest {
                 x.run(500);
                 int three = told(dries[i], dries[i], dries[i]);
                 int nods = told(all + off, all + off, all + off);
-                DUE.is("SORT " + sorts[i] + " of NODS " + (all + off), x.sorts(three, nods) >> sorts[i] & 1, off == 0 ? 1 : 0);
+                DUE.is("SORT " + sorts[i] + " of NODS " + (all + off), x.sorts(three, nods) >> sorts[i] & 1,
+                    off == 0 ? 1 : 0);
             }
         }
     }
@@ -564,7 +571,7 @@ public final class EdgesOfDrumTest {
         int[][] all = {{20, 50, 80}, {0, 0, 0}, {10, 10, 12}};
         for (int[] dries : all) {
             for (int of = 1; of <= 9; of++) {
-                int[] nods = {nodsOf(own, of, dries[0], 1000), nodsOf(own, of, dries[1], 1000), nodsOf(own, of, dries[2], 1000)};
+                int[] nods = nodsOfAll(own, of, dries);
                 int bits = bitsOf(own, dries, nods);
                 int many = Integer.bitCount(bits);
                 BirdThatDrinks x = with(own);

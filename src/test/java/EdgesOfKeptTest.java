@@ -28,7 +28,8 @@ public final class EdgesOfKeptTest {
     /** The next z, with whole numbers that have no end, wrapped around as an int is. */
     private static int next(int z) {
         BigInteger all = BigInteger.ONE.shiftLeft(32);
-        BigInteger next = BigInteger.valueOf(z).multiply(BigInteger.valueOf(1664525)).add(BigInteger.valueOf(1013904223));
+        BigInteger next = BigInteger.valueOf(z).multiply(BigInteger.valueOf(1664525))
+            .add(BigInteger.valueOf(1013904223));
         BigInteger cut = next.mod(all);
         return cut.testBit(31) ? cut.subtract(all).intValueExact() : cut.intValueExact();
     }
@@ -476,7 +477,8 @@ public final class EdgesOfKeptTest {
     }
 
     private static void counts() {
-        DUE.sentence("0 DOTS, 1 STATEMENTS of the BOOK, 2 GAPS in the ROW, 3 bytes on THE TAPE, 11 .. 16 REFUSALS -1 .. -6. -9 for another what.");
+        DUE.sentence("0 DOTS, 1 STATEMENTS of the BOOK, 2 GAPS in the ROW, 3 bytes on THE TAPE, 11 .. 16 "
+            + "REFUSALS -1 .. -6. -9 for another what.");
         BirdThatDrinks x = Poised.dots(10, 30, 60);
         Due.book(x, "d0:1;d0:1;");
         x.gap(1);

@@ -345,7 +345,8 @@ public final class EdgesOfStatesTest {
     }
 
     private static void fifthTenth() {
-        DUE.sentence("TIPPING: in the fifth TENTH of it he NODS: NODS 1 more; a DOT (TIME) is on the drum; then EMPTYING.");
+        DUE.sentence("TIPPING: in the fifth TENTH of it he NODS: NODS 1 more; a DOT (TIME) is on the drum; then "
+            + "EMPTYING.");
         for (int n = 3; n <= 6; n++) {
             Poised p = Poised.tipping(500);
             int time = p.x.now(6);

@@ -35,7 +35,8 @@ public final class FaceTest {
             shown.add(face.toString());
             publicNames.add(m.getName());
             due.isTrue(m + " is a public method that answers an int",
-                Modifier.isPublic(m.getModifiers()) && !Modifier.isStatic(m.getModifiers()) && m.getReturnType() == int.class);
+                Modifier.isPublic(m.getModifiers()) && !Modifier.isStatic(m.getModifiers())
+                    && m.getReturnType() == int.class);
         }
         due.isTrue("the face is " + shown, shown.equals(new TreeSet<>(Arrays.asList(FACE))));
         for (Field f : c.getDeclaredFields()) {
